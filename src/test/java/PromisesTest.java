@@ -353,6 +353,7 @@ public final class PromisesTest {
         }
         due.same("18: all of W", desk(2, new int[] {0, 1}, 9, 9).witness(1), 3);
         twoStars();
+        firstInOrder();
     }
 
     /** Two stars, whose middles must both be in U. */
@@ -362,6 +363,18 @@ public final class PromisesTest {
         due.same("18: two middles, U", x.witness(0), 9);
         due.same("18: two middles, W", x.witness(1), 0);
         due.same("18: its bound", x.bound(9, 0), x.most());
+    }
+
+    /** Where others of as many vertices, and with a lesser number, have the same bound. */
+    private void firstInOrder() {
+        FactorDesk x = desk(5, new int[] {3, 4, 3, 1, 4, 1, 2, 4, 2, 0, 1, 0, 3, 2}, 0, 0, 0, 2, 0);
+        due.same("18: {1, 2} and {3} would do", x.bound(6, 8), x.most());
+        due.same("18: but U = {0, 4} comes before", x.witness(0), 17);
+        due.same("18: with W = {3}", x.witness(1), 8);
+        FactorDesk y = desk(5, new int[] {1, 2, 4, 0, 1, 3, 1, 0}, 1, 2, 2, 2, 2);
+        due.same("18: no U and {2, 3} would do", y.bound(0, 12), y.most());
+        due.same("18: no U", y.witness(0), 0);
+        due.same("18: but W = {1, 4} comes before", y.witness(1), 18);
     }
 
     private void changesAreSeenAtOnce() {
