@@ -1,8 +1,8 @@
 /** Each promise of the document by hand-made examples: ordinary inputs, edges, and wrong inputs. */
 public final class PromisesTest {
     private static final int NONE = FactorDesk.NONE;
-    private static final int LOWEST = Integer.MIN_VALUE;
-    private static final int HIGHEST = Integer.MAX_VALUE;
+    private static final int LOWEST = Desks.LOWEST;
+    private static final int HIGHEST = Desks.HIGHEST;
 
     private final Due due = new Due("PromisesTest");
 
@@ -33,35 +33,6 @@ public final class PromisesTest {
         test.due.close();
     }
 
-    private static FactorDesk desk(int n, int[] ends, int... demands) {
-        FactorDesk x = new FactorDesk();
-        x.begin(n);
-        for (int i = 0; i + 1 < ends.length; i += 2) {
-            x.edge(ends[i], ends[i + 1]);
-        }
-        for (int v = 0; v < demands.length; v++) {
-            x.ask(v, demands[v]);
-        }
-        return x;
-    }
-
-    private static FactorDesk triangle(int d0, int d1, int d2) {
-        return desk(3, new int[] {0, 1, 1, 2, 2, 0}, d0, d1, d2);
-    }
-
-    /** Vertex 0 in the middle, with one edge to each of three others. */
-    private static FactorDesk star(int middle, int outer) {
-        return desk(4, new int[] {0, 1, 0, 2, 0, 3}, middle, outer, outer, outer);
-    }
-
-    private static FactorDesk bundle(int count, int d0, int d1) {
-        FactorDesk x = desk(2, new int[0], d0, d1);
-        for (int i = 0; i < count; i++) {
-            x.edge(1, 0);
-        }
-        return x;
-    }
-
     private void promise1NewObject() {
         FactorDesk x = new FactorDesk();
         due.same("1: vertices", x.vertices(), 1);
@@ -81,7 +52,7 @@ public final class PromisesTest {
     }
 
     private void promise2Begin() {
-        FactorDesk x = triangle(1, 2, 3);
+        FactorDesk x = Desks.triangle(1, 2, 3);
         for (int n : new int[] {0, -1, 10, LOWEST, HIGHEST}) {
             due.refused("2: begin(" + n + ")", x.begin(n));
             due.same("2: refused, vertices", x.vertices(), 3);
@@ -124,7 +95,7 @@ public final class PromisesTest {
     }
 
     private void promise4Drop() {
-        FactorDesk x = desk(4, new int[] {0, 1, 1, 2, 3, 2, 0, 3}, 1, 2, 3, 4);
+        FactorDesk x = Desks.desk(4, new int[] {0, 1, 1, 2, 3, 2, 0, 3}, 1, 2, 3, 4);
         for (int e : new int[] {-1, 4, 14, 32, LOWEST, HIGHEST}) {
             due.refused("4: drop(" + e + ")", x.drop(e));
         }
@@ -145,7 +116,7 @@ public final class PromisesTest {
     }
 
     private void promise5Ask() {
-        FactorDesk x = desk(3, new int[] {0, 1}, 4, 5, 6);
+        FactorDesk x = Desks.desk(3, new int[] {0, 1}, 4, 5, 6);
         for (int v : new int[] {-1, 3, 9, LOWEST, HIGHEST}) {
             due.refused("5: ask(" + v + ", 1)", x.ask(v, 1));
         }
@@ -184,7 +155,7 @@ public final class PromisesTest {
     }
 
     private void promise8End() {
-        FactorDesk x = desk(9, new int[] {8, 2, 2, 8});
+        FactorDesk x = Desks.desk(9, new int[] {8, 2, 2, 8});
         due.same("8: end(0, 0)", x.end(0, 0), 8);
         due.same("8: end(0, 1)", x.end(0, 1), 2);
         due.same("8: end(1, 0)", x.end(1, 0), 2);
@@ -199,7 +170,7 @@ public final class PromisesTest {
     }
 
     private void promise9Demand() {
-        FactorDesk x = desk(2, new int[0], 14, 3);
+        FactorDesk x = Desks.desk(2, new int[0], 14, 3);
         due.same("9: demand(0)", x.demand(0), 14);
         due.same("9: demand(1)", x.demand(1), 3);
         for (int v : new int[] {-1, 2, 8, 9, LOWEST, HIGHEST}) {
@@ -208,7 +179,7 @@ public final class PromisesTest {
     }
 
     private void promise10Judge() {
-        FactorDesk x = triangle(2, 1, 1);
+        FactorDesk x = Desks.triangle(2, 1, 1);
         int[] verdicts = {1, 1, 1, 0, 1, 2, 0, 0};
         for (int set = 0; set < 8; set++) {
             due.same("10: judge(" + set + ")", x.judge(set), verdicts[set]);
@@ -216,111 +187,111 @@ public final class PromisesTest {
         for (int set : new int[] {-1, 8, 9, 1 << 14, 1 << 30, LOWEST, HIGHEST}) {
             due.same("10: judge(" + set + ")", x.judge(set), NONE);
         }
-        FactorDesk full = bundle(14, 14, 14);
+        FactorDesk full = Desks.bundle(14, 14, 14);
         due.same("10: all fourteen", full.judge((1 << 14) - 1), 2);
         due.same("10: one beyond", full.judge(1 << 14), NONE);
-        due.same("10: all of a star", star(3, 1).judge(7), 2);
-        due.same("10: a vertex without edges asks", desk(3, new int[] {0, 1}, 1, 1, 1).judge(1), 1);
-        due.same("10: nobody asks", desk(2, new int[] {0, 1}).judge(0), 2);
-        due.same("10: more than nothing", desk(2, new int[] {0, 1}).judge(1), 0);
+        due.same("10: all of a star", Desks.star(3, 1).judge(7), 2);
+        due.same("10: a vertex without edges asks", Desks.desk(3, new int[] {0, 1}, 1, 1, 1).judge(1), 1);
+        due.same("10: nobody asks", Desks.desk(2, new int[] {0, 1}).judge(0), 2);
+        due.same("10: more than nothing", Desks.desk(2, new int[] {0, 1}).judge(1), 0);
     }
 
     private void promise11Most() {
-        due.same("11: triangle of ones", triangle(1, 1, 1).most(), 1);
-        due.same("11: triangle of twos", triangle(2, 2, 2).most(), 3);
-        due.same("11: greed would have two", desk(4, new int[] {1, 2, 0, 1, 2, 3}, 1, 1, 1, 1).most(), 2);
-        due.same("11: star", star(2, 5).most(), 2);
-        due.same("11: all of a bundle", bundle(14, 14, 14).most(), 14);
-        due.same("11: part of a bundle", bundle(14, 14, 5).most(), 5);
-        due.same("11: nobody asks", triangle(0, 0, 0).most(), 0);
+        due.same("11: triangle of ones", Desks.triangle(1, 1, 1).most(), 1);
+        due.same("11: triangle of twos", Desks.triangle(2, 2, 2).most(), 3);
+        due.same("11: greed would have two", Desks.desk(4, new int[] {1, 2, 0, 1, 2, 3}, 1, 1, 1, 1).most(), 2);
+        due.same("11: star", Desks.star(2, 5).most(), 2);
+        due.same("11: all of a bundle", Desks.bundle(14, 14, 14).most(), 14);
+        due.same("11: part of a bundle", Desks.bundle(14, 14, 5).most(), 5);
+        due.same("11: nobody asks", Desks.triangle(0, 0, 0).most(), 0);
         int[] hubs = {0, 2, 1, 2, 0, 3, 1, 3, 0, 4, 1, 4, 0, 5, 1, 5, 0, 6, 1, 6, 0, 7, 1, 7, 0, 8, 1, 8};
-        due.same("11: two hubs", desk(9, hubs, 3, 3, 4, 3, 6, 3, 6, 3, 4).most(), 6);
+        due.same("11: two hubs", Desks.desk(9, hubs, 3, 3, 4, 3, 6, 3, 6, 3, 4).most(), 6);
         int[] twoTriangles = {0, 1, 1, 2, 2, 0, 2, 3, 3, 4, 4, 5, 5, 3};
-        due.same("11: two triangles", desk(6, twoTriangles, 1, 1, 1, 1, 1, 1).most(), 3);
+        due.same("11: two triangles", Desks.desk(6, twoTriangles, 1, 1, 1, 1, 1, 1).most(), 3);
     }
 
     private void promise12Best() {
-        due.same("12: the least number first", triangle(1, 1, 1).best(), 1);
-        due.same("12: not the greedy one", desk(4, new int[] {1, 2, 0, 1, 2, 3}, 1, 1, 1, 1).best(), 6);
-        due.same("12: first of a bundle", bundle(14, 2, 3).best(), 3);
+        due.same("12: the least number first", Desks.triangle(1, 1, 1).best(), 1);
+        due.same("12: not the greedy one", Desks.desk(4, new int[] {1, 2, 0, 1, 2, 3}, 1, 1, 1, 1).best(), 6);
+        due.same("12: first of a bundle", Desks.bundle(14, 2, 3).best(), 3);
         int[] square = {0, 1, 2, 3, 1, 2, 3, 0};
-        due.same("12: first of two", desk(4, square, 1, 1, 1, 1).best(), 3);
+        due.same("12: first of two", Desks.desk(4, square, 1, 1, 1, 1).best(), 3);
         // {0, 3} (9) comes before {1, 2} (6) in ORDER, though its number is greater.
         int[] crossed = {0, 1, 1, 2, 3, 0, 2, 3};
-        due.same("12: ORDER is not that of numbers", desk(4, crossed, 1, 1, 1, 1).best(), 9);
-        due.same("12: empty", triangle(5, 0, 0).best(), 0);
+        due.same("12: ORDER is not that of numbers", Desks.desk(4, crossed, 1, 1, 1, 1).best(), 9);
+        due.same("12: empty", Desks.triangle(5, 0, 0).best(), 0);
     }
 
     private void promise13Factor() {
-        due.same("13: an odd sum", triangle(1, 1, 1).factor(), NONE);
-        due.same("13: triangle", triangle(2, 1, 1).factor(), 5);
-        due.same("13: all of it", triangle(2, 2, 2).factor(), 7);
-        due.same("13: too much asked", triangle(2, 2, 4).factor(), NONE);
-        due.same("13: nobody asks", triangle(0, 0, 0).factor(), 0);
+        due.same("13: an odd sum", Desks.triangle(1, 1, 1).factor(), NONE);
+        due.same("13: triangle", Desks.triangle(2, 1, 1).factor(), 5);
+        due.same("13: all of it", Desks.triangle(2, 2, 2).factor(), 7);
+        due.same("13: too much asked", Desks.triangle(2, 2, 4).factor(), NONE);
+        due.same("13: nobody asks", Desks.triangle(0, 0, 0).factor(), 0);
         int[] crossed = {0, 1, 1, 2, 3, 0, 2, 3};
-        due.same("13: the first in ORDER", desk(4, crossed, 1, 1, 1, 1).factor(), 9);
-        due.same("13: a vertex without edges", desk(3, new int[] {0, 1}, 1, 1, 1).factor(), NONE);
-        due.same("13: it asks for none", desk(3, new int[] {0, 1}, 1, 1, 0).factor(), 1);
+        due.same("13: the first in ORDER", Desks.desk(4, crossed, 1, 1, 1, 1).factor(), 9);
+        due.same("13: a vertex without edges", Desks.desk(3, new int[] {0, 1}, 1, 1, 1).factor(), NONE);
+        due.same("13: it asks for none", Desks.desk(3, new int[] {0, 1}, 1, 1, 0).factor(), 1);
         int[] twoTriangles = {0, 1, 1, 2, 2, 0, 3, 4, 4, 5, 5, 3};
-        due.same("13: even, but not in parts", desk(6, twoTriangles, 1, 1, 1, 1, 1, 1).factor(), NONE);
+        due.same("13: even, but not in parts", Desks.desk(6, twoTriangles, 1, 1, 1, 1, 1, 1).factor(), NONE);
     }
 
     private void promise14Role() {
-        FactorDesk x = triangle(2, 1, 1);
+        FactorDesk x = Desks.triangle(2, 1, 1);
         due.same("14: in all", x.role(0), 2);
         due.same("14: in none", x.role(1), 0);
         due.same("14: in all, the last", x.role(2), 2);
         for (int e : new int[] {-1, 3, 14, 32, LOWEST, HIGHEST}) {
             due.same("14: role(" + e + ")", x.role(e), NONE);
         }
-        FactorDesk bundle = bundle(3, 2, 2);
+        FactorDesk bundle = Desks.bundle(3, 2, 2);
         for (int e = 0; e < 3; e++) {
             due.same("14: of a bundle " + e, bundle.role(e), 1);
-            due.same("14: one is not asked " + e, bundle(3, 0, 2).role(e), 0);
-            due.same("14: all of a bundle " + e, bundle(3, 3, 3).role(e), 2);
+            due.same("14: one is not asked " + e, Desks.bundle(3, 0, 2).role(e), 0);
+            due.same("14: all of a bundle " + e, Desks.bundle(3, 3, 3).role(e), 2);
         }
-        FactorDesk path = desk(4, new int[] {1, 2, 0, 1, 2, 3}, 1, 1, 1, 1);
+        FactorDesk path = Desks.desk(4, new int[] {1, 2, 0, 1, 2, 3}, 1, 1, 1, 1);
         due.same("14: the middle of a path", path.role(0), 0);
         due.same("14: an outer one", path.role(1), 2);
     }
 
     private void promise15Slack() {
-        FactorDesk x = bundle(6, 9, 4);
+        FactorDesk x = Desks.bundle(6, 9, 4);
         due.same("15: what is too much", x.slack(0), 5);
         due.same("15: what is needed", x.slack(1), 0);
         for (int v : new int[] {-1, 2, 9, LOWEST, HIGHEST}) {
             due.same("15: slack(" + v + ")", x.slack(v), NONE);
         }
-        FactorDesk star = star(2, 1);
+        FactorDesk star = Desks.star(2, 1);
         due.same("15: the middle", star.slack(0), 0);
         due.same("15: who can be spared, though in the best set", star.slack(1), 1);
-        due.same("15: all of it", triangle(14, 0, 0).slack(0), 14);
-        due.same("15: none asked", triangle(0, 2, 2).slack(0), 0);
+        due.same("15: all of it", Desks.triangle(14, 0, 0).slack(0), 14);
+        due.same("15: none asked", Desks.triangle(0, 2, 2).slack(0), 0);
         // Without the edge between 0 and 2 the others are a ring of four.
-        FactorDesk ring = desk(4, new int[] {0, 1, 0, 2, 0, 3, 1, 2, 2, 3}, 3, 2, 2, 2);
+        FactorDesk ring = Desks.desk(4, new int[] {0, 1, 0, 2, 0, 3, 1, 2, 2, 3}, 3, 2, 2, 2);
         due.same("15: one edge less", ring.slack(0), 1);
-        FactorDesk shared = desk(3, new int[] {0, 1, 0, 1, 2, 1, 2, 1}, 2, 2, 2);
+        FactorDesk shared = Desks.desk(3, new int[] {0, 1, 0, 1, 2, 1, 2, 1}, 2, 2, 2);
         due.same("15: another can stand in for both", shared.slack(0), 2);
         due.same("15: demand stays", shared.demand(0), 2);
     }
 
     private void promise16Gain() {
-        FactorDesk x = bundle(6, 9, 4);
+        FactorDesk x = Desks.bundle(6, 9, 4);
         due.same("16: no use", x.gain(0), 0);
         due.same("16: one more", x.gain(1), 1);
         for (int v : new int[] {-1, 2, 9, LOWEST, HIGHEST}) {
             due.same("16: gain(" + v + ")", x.gain(v), NONE);
         }
-        due.same("16: both would have to", triangle(1, 1, 0).gain(0), 0);
-        due.same("16: an odd one out", triangle(1, 1, 1).gain(2), 1);
-        due.same("16: beyond 14", bundle(14, 14, 14).gain(0), 0);
-        due.same("16: from none", bundle(2, 0, 1).gain(0), 1);
+        due.same("16: both would have to", Desks.triangle(1, 1, 0).gain(0), 0);
+        due.same("16: an odd one out", Desks.triangle(1, 1, 1).gain(2), 1);
+        due.same("16: beyond 14", Desks.bundle(14, 14, 14).gain(0), 0);
+        due.same("16: from none", Desks.bundle(2, 0, 1).gain(0), 1);
         due.same("16: demand stays", x.demand(1), 4);
         due.same("16: most stays", x.most(), 4);
     }
 
     private void promise17Bound() {
-        FactorDesk x = desk(5, new int[] {0, 1, 1, 2, 2, 0, 2, 3, 3, 4}, 1, 2, 3, 4, 5);
+        FactorDesk x = Desks.desk(5, new int[] {0, 1, 1, 2, 2, 0, 2, 3, 3, 4}, 1, 2, 3, 4, 5);
         due.same("17: one part", x.bound(0, 0), 7);
         due.same("17: all in U", x.bound(31, 0), 15);
         due.same("17: all in W", x.bound(0, 31), 5);
@@ -333,25 +304,25 @@ public final class PromisesTest {
         for (int[] pair : wrong) {
             due.same("17: bound(" + pair[0] + ", " + pair[1] + ")", x.bound(pair[0], pair[1]), NONE);
         }
-        due.same("17: halves are rounded part by part", desk(4, new int[] {0, 1, 2, 3}, 1, 2, 1, 2).bound(0, 0), 2);
-        due.same("17: edges between the same two", bundle(5, 1, 2).bound(0, 1), 3);
+        due.same("17: halves are rounded part by part", Desks.desk(4, new int[] {0, 1, 2, 3}, 1, 2, 1, 2).bound(0, 0), 2);
+        due.same("17: edges between the same two", Desks.bundle(5, 1, 2).bound(0, 1), 3);
     }
 
     private void promise18Witness() {
-        FactorDesk path = desk(3, new int[] {1, 2, 2, 0}, 2, 1, 1);
+        FactorDesk path = Desks.desk(3, new int[] {1, 2, 2, 0}, 2, 1, 1);
         due.same("18: an empty U, W = {0}", path.witness(0) * 10 + path.witness(1), 1);
-        FactorDesk star = star(1, 1);
+        FactorDesk star = Desks.star(1, 1);
         due.same("18: the middle of a star, U", star.witness(0), 1);
         due.same("18: the middle of a star, W", star.witness(1), 0);
-        FactorDesk generous = star(1, 2);
+        FactorDesk generous = Desks.star(1, 2);
         due.same("18: the outer ones ask too much, U", generous.witness(0), 1);
         due.same("18: the outer ones ask too much, W", generous.witness(1), 14);
-        FactorDesk all = bundle(14, 14, 14);
+        FactorDesk all = Desks.bundle(14, 14, 14);
         due.same("18: all of a bundle", all.witness(0) * 10 + all.witness(1), 0);
         for (int which : new int[] {-1, 2, 3, LOWEST, HIGHEST}) {
             due.same("18: witness(" + which + ")", star.witness(which), NONE);
         }
-        due.same("18: all of W", desk(2, new int[] {0, 1}, 9, 9).witness(1), 3);
+        due.same("18: all of W", Desks.desk(2, new int[] {0, 1}, 9, 9).witness(1), 3);
         twoStars();
         firstInOrder();
     }
@@ -359,7 +330,7 @@ public final class PromisesTest {
     /** Two stars, whose middles must both be in U. */
     private void twoStars() {
         int[] stars = {0, 1, 0, 2, 0, 4, 3, 5, 3, 6, 3, 7};
-        FactorDesk x = desk(8, stars, 1, 1, 1, 1, 1, 1, 1, 1);
+        FactorDesk x = Desks.desk(8, stars, 1, 1, 1, 1, 1, 1, 1, 1);
         due.same("18: two middles, U", x.witness(0), 9);
         due.same("18: two middles, W", x.witness(1), 0);
         due.same("18: its bound", x.bound(9, 0), x.most());
@@ -367,18 +338,18 @@ public final class PromisesTest {
 
     /** Where others of as many vertices, and with a lesser number, have the same bound. */
     private void firstInOrder() {
-        FactorDesk x = desk(5, new int[] {3, 4, 3, 1, 4, 1, 2, 4, 2, 0, 1, 0, 3, 2}, 0, 0, 0, 2, 0);
+        FactorDesk x = Desks.desk(5, new int[] {3, 4, 3, 1, 4, 1, 2, 4, 2, 0, 1, 0, 3, 2}, 0, 0, 0, 2, 0);
         due.same("18: {1, 2} and {3} would do", x.bound(6, 8), x.most());
         due.same("18: but U = {0, 4} comes before", x.witness(0), 17);
         due.same("18: with W = {3}", x.witness(1), 8);
-        FactorDesk y = desk(5, new int[] {1, 2, 4, 0, 1, 3, 1, 0}, 1, 2, 2, 2, 2);
+        FactorDesk y = Desks.desk(5, new int[] {1, 2, 4, 0, 1, 3, 1, 0}, 1, 2, 2, 2, 2);
         due.same("18: no U and {2, 3} would do", y.bound(0, 12), y.most());
         due.same("18: no U", y.witness(0), 0);
         due.same("18: but W = {1, 4} comes before", y.witness(1), 18);
     }
 
     private void changesAreSeenAtOnce() {
-        FactorDesk x = star(1, 1);
+        FactorDesk x = Desks.star(1, 1);
         due.same("changes: before", x.most() * 100 + x.witness(0) * 10 + x.bound(0, 0), 112);
         x.ask(0, 3);
         due.same("changes: ask", x.most() * 100 + x.witness(0) * 10 + x.bound(0, 0), 303);
@@ -391,7 +362,7 @@ public final class PromisesTest {
     }
 
     private void refusedCallsChangeNothing() {
-        FactorDesk x = triangle(2, 1, 1);
+        FactorDesk x = Desks.triangle(2, 1, 1);
         x.begin(0);
         x.begin(10);
         x.edge(0, 0);
@@ -409,8 +380,8 @@ public final class PromisesTest {
     }
 
     private void objectsAreApart() {
-        FactorDesk a = triangle(2, 1, 1);
-        FactorDesk b = bundle(4, 3, 3);
+        FactorDesk a = Desks.triangle(2, 1, 1);
+        FactorDesk b = Desks.bundle(4, 3, 3);
         due.same("apart: a", a.best(), 5);
         due.same("apart: b", b.best(), 7);
         b.begin(1);
@@ -418,7 +389,7 @@ public final class PromisesTest {
     }
 
     private void questionsChangeNothing() {
-        FactorDesk x = triangle(2, 1, 1);
+        FactorDesk x = Desks.triangle(2, 1, 1);
         for (int i = 0; i < 3; i++) {
             due.same("questions: best", x.best(), 5);
             due.same("questions: role", x.role(1), 0);
